@@ -560,7 +560,7 @@ public final class MeterHouse {
         private final Sky sky;
         private final Division spread;
         private final Row volumes = new Row(DAYS);
-        /** Of each day with a reading that was taken 1 more than its use, of others 0. */
+        /** Of each day with a reading behind the first one 1 more than its use, of others 0. */
         private final Row uses = new Row(DAYS);
         private Meter meter;
         private int latest;
@@ -576,7 +576,6 @@ public final class MeterHouse {
             this.sky = sky;
             this.spread = spread;
             this.latest = first;
-            this.uses.set(first, 1);
         }
 
         boolean canShow(int number) {

@@ -18,6 +18,7 @@ public final class ModelTest {
     private final List<String> calls = new ArrayList<>();
     private final int strangeOf;
     private final int mostDays;
+    private int daySettled = 0;
 
     private ModelTest(int seed) {
         numbers = new Random(seed);
@@ -62,6 +63,14 @@ public final class ModelTest {
         return numbers.nextInt(3) == 0 ? number(0, day - 1) : number(Math.max(0, day - 6), day - 1);
     }
 
+    /** Mostly one day for a while, so that the calls of the settlement meet on it. */
+    private int dayToSettle() {
+        if (numbers.nextInt(8) == 0) {
+            daySettled = passedDay();
+        }
+        return daySettled;
+    }
+
     private int shown(int point) {
         if (point < 0 || point >= plain.countOfPoints() || numbers.nextInt(12) == 0) {
             return number(0, 1100000);
@@ -102,9 +111,9 @@ public final class ModelTest {
             case 9:
                 return numbers.nextInt(2) == 0 ? credit() : ofPoint("account");
             case 10:
-                return numbers.nextInt(2) == 0 ? income() : inflow();
+                return numbers.nextInt(4) == 0 ? income() : inflow();
             case 11:
-                return numbers.nextInt(2) == 0 ? settle() : settled();
+                return numbers.nextInt(4) == 0 ? settle() : settled();
             case 12:
                 return volume();
             case 13:
@@ -211,18 +220,18 @@ public final class ModelTest {
     }
 
     private String[] inflow() {
-        int day = passedDay();
+        int day = dayToSettle();
         int units = numbers.nextInt(4) == 0 ? number(0, 1000000000) : number(0, 400);
         return answers(text("inflow", day, units), () -> house.inflow(day, units), () -> plain.inflow(day, units));
     }
 
     private String[] settle() {
-        int day = passedDay();
+        int day = dayToSettle();
         return answers(text("settle", day), () -> house.settle(day), () -> plain.settle(day));
     }
 
     private String[] settled() {
-        int day = passedDay();
+        int day = dayToSettle();
         int supplier = number(0, 3);
         return answers(text("settled", day, supplier), () -> house.settled(day, supplier),
                 () -> plain.settled(day, supplier));

@@ -20,6 +20,7 @@ public final class ReadingsTest {
         pacesAndEstimates();
         ofRanges();
         daysOfVolumes();
+        pointsSideBySide();
         Check.end();
     }
 
@@ -388,5 +389,25 @@ public final class ReadingsTest {
         Check.noSuch("volumeAnew of no point", () -> house.volumeAnew(2, 5));
         Check.noSuch("volume of the point -1", () -> house.volume(-1, 5));
         Check.noSuch("volumeAnew of the point -1", () -> house.volumeAnew(-1, 5));
+    }
+
+    private static void pointsSideBySide() {
+        MeterHouse house = new MeterHouse();
+        house.point(0, MeterHouse.FLAT, 3, 1, 0);
+        house.point(1, MeterHouse.HOUSE, 3, 1, 0);
+        house.weather(0, 0, 0);
+        house.pass(2);
+        house.read(0, 40);
+        house.read(1, 90);
+        dueVolumes(house, 0, 0, 20, 20);
+        dueVolumes(house, 1, 0, 30, 60);
+        house.pass(2);
+        house.read(0, 43);
+        dueVolumes(house, 1, 0, 30, 60, 60, 60);
+        house.read(1, 95);
+        dueVolumes(house, 0, 0, 20, 20, 2, 1);
+        dueVolumes(house, 1, 0, 30, 60, 3, 2);
+        Check.due("the pace of the first", house.of(0, 0), 150);
+        Check.due("the pace of the second", house.of(1, 0), 125);
     }
 }

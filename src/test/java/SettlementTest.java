@@ -90,7 +90,7 @@ public final class SettlementTest {
 
     private static void lossBelowZero() {
         MeterHouse house = flats(0, 1, 1);
-        house.pass(3);
+        house.pass(4);
         house.inflow(0, 23);
         house.settle(0);
         // 7 without its sign: 2 and 10, 4 and 20
@@ -101,6 +101,10 @@ public final class SettlementTest {
         house.settle(2);
         // 2 without its sign: 0 and 20, 1 and 10
         dueSettled(house, 2, 9, 19, 0, 0);
+        house.inflow(3, 29);
+        house.settle(3);
+        // 1 without its sign: 0 and 10, 0 and 20
+        dueSettled(house, 3, 10, 19, 0, 0);
     }
 
     private static void noVolumes() {

@@ -7,6 +7,7 @@ public final class SuppliersTest {
         objects();
         reversesOnce();
         reversesTheLatestAlone();
+        reversesToTheDayAhead();
         reverseRefused();
         changesBehindAReverse();
         tariffBlocks();
@@ -125,6 +126,17 @@ public final class SuppliersTest {
         Check.due("reverse the second", house.reverse(0), 3);
         Check.notNow("reverse the first", () -> house.reverse(0));
         dueSuppliers(house, 0, 0, "0011111");
+        Check.due("supplier then", house.of(0, 3), 1);
+    }
+
+    private static void reversesToTheDayAhead() {
+        MeterHouse house = house();
+        house.change(0, 1, 2);
+        house.pass(2);
+        house.change(0, 2, 3);
+        house.pass(2);
+        Check.due("reverse a change behind a change", house.reverse(0), 2);
+        dueSuppliers(house, 0, 0, "0011");
         Check.due("supplier then", house.of(0, 3), 1);
     }
 
