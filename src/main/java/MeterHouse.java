@@ -412,7 +412,7 @@ public final class MeterHouse {
         /** Returns how many days have others by that. */
         int tell(int from, int to, int told) {
             int others = 0;
-            for (int day = from; day <= to; day++) {
+            for (int day = from; day <= to && day < DAYS; day++) {
                 if (degrees.get(day) != told) {
                     degrees.set(day, told);
                     others++;
