@@ -4,8 +4,18 @@ import java.util.function.Supplier;
 final class Check {
     private static int compared = 0;
     private static int wrong = 0;
+    private static String sentence = "";
 
     private Check() {
+    }
+
+    /** A test of one sentence of the document; what is wrong in it is told with the sentence. */
+    static void that(String said, Runnable test) {
+        sentence = said + ": ";
+        String end = outcome(test);
+        // a test that ends early has left something uncompared
+        dueText("the test", end, "nothing");
+        sentence = "";
     }
 
     static void due(String call, long got, long want) {
@@ -16,7 +26,7 @@ final class Check {
         compared++;
         if (!got.equals(want)) {
             wrong++;
-            System.out.println(call + " answered " + got + ", due is " + want);
+            System.out.println(sentence + call + " answered " + got + ", due is " + want);
         }
     }
 

@@ -77,11 +77,15 @@ public final class RefusedTest {
     private static void listPoints() {
         add("point(4, 3, 2, 0, -1)", NO_SUCH, h -> h.point(4, 3, 2, 0, -1));
         add("point(0, 3, 3, 1, 0)", OUT_OF_RANGE, h -> h.point(0, 3, 3, 1, 0));
+        add("point(0, 0, 2, 1, 0)", OUT_OF_RANGE, h -> h.point(0, 0, 2, 1, 0));
+        add("point(0, 0, 3, 11, 0)", OUT_OF_RANGE, h -> h.point(0, 0, 3, 11, 0));
         add("point(0, 0, 3, 1, 1000)", OUT_OF_RANGE, h -> h.point(0, 0, 3, 1, 1000));
         add("point(0, 0, 3, 1, 0)", NOT_NOW, h -> h.point(0, 0, 3, 1, 0));
         add("weather(11, 20, 9)", NO_SUCH, h -> h.weather(11, 20, 9));
         add("weather(12, 1000, 9)", NO_SUCH, h -> h.weather(12, 1000, 9));
         add("weather(20, 19, 31)", NO_SUCH, h -> h.weather(20, 19, 31));
+        add("weather(20, 19, 9)", NO_SUCH, h -> h.weather(20, 19, 9));
+        add("weather(12, 999, -1)", OUT_OF_RANGE, h -> h.weather(12, 999, -1));
         add("weather(12, 20, 31)", OUT_OF_RANGE, h -> h.weather(12, 20, 31));
         add("pass(0)", OUT_OF_RANGE, h -> h.pass(0));
         add("pass(61)", OUT_OF_RANGE, h -> h.pass(61));
@@ -92,11 +96,16 @@ public final class RefusedTest {
         add("read(0, 1000)", OUT_OF_RANGE, h -> h.read(0, 1000));
         add("read(1, 10000)", OUT_OF_RANGE, h -> h.read(1, 10000));
         add("read(0, 170)", NOT_NOW, h -> h.read(0, 170));
+        add("read(0, 999), which would be doubted", NOT_NOW, h -> h.read(0, 999));
+        add("read(1, -1)", OUT_OF_RANGE, h -> h.read(1, -1));
         add("confirm(-1)", NO_SUCH, h -> h.confirm(-1));
         add("confirm(0)", NOT_NOW, h -> h.confirm(0));
         add("exchange(8, 0, 0, 0)", NO_SUCH, h -> h.exchange(8, 0, 0, 0));
         add("exchange(1, 10000, 3, 1)", OUT_OF_RANGE, h -> h.exchange(1, 10000, 3, 1));
         add("exchange(1, 200, 7, 1)", OUT_OF_RANGE, h -> h.exchange(1, 200, 7, 1));
+        add("exchange(1, 200, 2, 1)", OUT_OF_RANGE, h -> h.exchange(1, 200, 2, 1));
+        add("exchange(1, 200, 3, 0)", OUT_OF_RANGE, h -> h.exchange(1, 200, 3, 0));
+        add("exchange(1, -1, 3, 1)", OUT_OF_RANGE, h -> h.exchange(1, -1, 3, 1));
         add("exchange(1, 200, 3, 11)", OUT_OF_RANGE, h -> h.exchange(1, 200, 3, 11));
         add("exchange(0, 1000, 3, 1)", OUT_OF_RANGE, h -> h.exchange(0, 1000, 3, 1));
         add("exchange(0, 170, 3, 1)", NOT_NOW, h -> h.exchange(0, 170, 3, 1));
@@ -105,6 +114,9 @@ public final class RefusedTest {
     private static void listSuppliers() {
         add("change(8, 1, 13)", NO_SUCH, h -> h.change(8, 1, 13));
         add("change(0, 4, 13)", NO_SUCH, h -> h.change(0, 4, 13));
+        add("change(1, 4, 13)", NO_SUCH, h -> h.change(1, 4, 13));
+        add("change(1, -1, 13)", NO_SUCH, h -> h.change(1, -1, 13));
+        add("change(1, 2, 12)", NO_SUCH, h -> h.change(1, 2, 12));
         add("change(0, 1, 12)", NO_SUCH, h -> h.change(0, 1, 12));
         add("change(1, 2, 1000)", NO_SUCH, h -> h.change(1, 2, 1000));
         add("change(0, 1, 13)", NOT_NOW, h -> h.change(0, 1, 13));
@@ -118,6 +130,9 @@ public final class RefusedTest {
         add("tariff(4, 101, 0, 0)", NO_SUCH, h -> tariff(h, 4, 101, 0, 0));
         add("tariff(0, 101, 0, 0)", OUT_OF_RANGE, h -> tariff(h, 0, 101, 0, 0));
         add("tariff(0, 100, 1001, 0)", OUT_OF_RANGE, h -> tariff(h, 0, 100, 1001, 0));
+        add("tariff(0, -1, 0, 0)", OUT_OF_RANGE, h -> tariff(h, 0, -1, 0, 0));
+        add("tariff(0, 100, -1, 0)", OUT_OF_RANGE, h -> tariff(h, 0, 100, -1, 0));
+        add("tariff(0, 100, 0, 101)", OUT_OF_RANGE, h -> tariff(h, 0, 100, 0, 101));
         add("tariff(0, 100, 0, -1)", OUT_OF_RANGE, h -> tariff(h, 0, 100, 0, -1));
     }
 
@@ -132,6 +147,9 @@ public final class RefusedTest {
         add("credit(8, 196)", NO_SUCH, h -> h.credit(8, 196));
         add("credit(0, 99)", OUT_OF_RANGE, h -> h.credit(0, 99));
         add("credit(0, -98)", OUT_OF_RANGE, h -> h.credit(0, -98));
+        add("credit(0, -1)", OUT_OF_RANGE, h -> h.credit(0, -1));
+        add("credit(0, the most)", OUT_OF_RANGE, h -> h.credit(0, Integer.MAX_VALUE));
+        add("credit(1, 98)", NOT_NOW, h -> h.credit(1, 98));
         add("credit(0, 98)", NOT_NOW, h -> h.credit(0, 98));
         add("account(8)", NO_SUCH, h -> h.account(8));
         add("income(4)", NO_SUCH, h -> h.income(4));
@@ -142,7 +160,10 @@ public final class RefusedTest {
         add("inflow(5, -1)", OUT_OF_RANGE, h -> h.inflow(5, -1));
         add("inflow(3, 1000000001)", OUT_OF_RANGE, h -> h.inflow(3, 1000000001));
         add("inflow(4, 1)", NOT_NOW, h -> h.inflow(4, 1));
+        add("inflow(-1, 1)", NO_SUCH, h -> h.inflow(-1, 1));
+        add("inflow(3, 1)", NOT_NOW, h -> h.inflow(3, 1));
         add("settle(12)", NO_SUCH, h -> h.settle(12));
+        add("settle(-1)", NO_SUCH, h -> h.settle(-1));
         add("settle(3)", NOT_NOW, h -> h.settle(3));
         add("settled(12, 0)", NO_SUCH, h -> h.settled(12, 0));
         add("settled(3, 4)", NO_SUCH, h -> h.settled(3, 4));
@@ -150,6 +171,8 @@ public final class RefusedTest {
 
     private static void listWhatThereIs() {
         add("volume(0, 12)", NO_SUCH, h -> h.volume(0, 12));
+        add("volume(8, 0)", NO_SUCH, h -> h.volume(8, 0));
+        add("volumeAnew(8, 0)", NO_SUCH, h -> h.volumeAnew(8, 0));
         add("volumeAnew(0, 12)", NO_SUCH, h -> h.volumeAnew(0, 12));
         add("of(8, 5)", NO_SUCH, h -> h.of(8, 5));
         add("of(0, 5)", OUT_OF_RANGE, h -> h.of(0, 5));
@@ -168,6 +191,9 @@ public final class RefusedTest {
         next(told, () -> house.read(2, 105));
         next(told, () -> house.read(3, 999));
         next(told, () -> house.reverse(3));
+        next(told, () -> house.change(1, 3, 16));
+        next(told, () -> house.change(2, 3, 999));
+        next(told, () -> house.object(2));
         next(told, () -> house.credit(0, 196));
         next(told, () -> house.credit(0, 0));
         next(told, () -> house.bill(3));
