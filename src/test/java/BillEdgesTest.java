@@ -156,6 +156,18 @@ public final class BillEdgesTest {
             Check.due("of 101 days", flat(101).bill(0), 100 * 20);
             Check.due("of 900 days", flat(900).bill(0), 100 * 20);
         });
+        Check.that("not one cent more for a day that is more than 100 days ahead of today", () -> {
+            for (int days = 100; days <= 101; days++) {
+                MeterHouse house = new MeterHouse();
+                house.point(2, MeterHouse.FLAT, 5, 1, 0);
+                house.tariff(2, 1, 1000, 0);
+                house.pass(1);
+                house.tariff(2, 0, 0, 0);
+                house.exchange(0, 1, 5, 1);
+                pass(house, days - 1);
+                Check.due("one cent, " + days + " days ago", house.bill(0), days == 100 ? 1 : 0);
+            }
+        });
         Check.that("what is nothing more stays as it was billed", () -> {
             MeterHouse house = flat(1);
             house.bill(0);
@@ -417,6 +429,13 @@ public final class BillEdgesTest {
             MeterHouse house = flat(0);
             Check.noSuch("of no point", () -> house.credit(1, codeOf(5)));
             Check.due("of a point", house.credit(0, codeOf(5)), 5);
+        });
+        Check.that("other codes count, greater and smaller ones, and those next to it", () -> {
+            MeterHouse house = flat(0);
+            for (int number : new int[] {96, 97, 95, 98, 0, 22139006, 1}) {
+                Check.due("the number " + number, house.credit(0, codeOf(number)), number % 1000);
+            }
+            Check.due("the account", house.account(0), -(96 + 97 + 95 + 98 + 6 + 1));
         });
         Check.that("other codes of the same cents count", () -> {
             MeterHouse house = flat(0);

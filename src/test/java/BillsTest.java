@@ -187,8 +187,8 @@ public final class BillsTest {
         Check.due("the number 999", house.credit(0, 97 * 999 + 29), 999);
         Check.due("the number 1000", house.credit(0, 97 * 1000 + 30), 0);
         Check.due("the number 1234", house.credit(0, 97 * 1234 + 70), 234);
-        // 22139006 is the number of the most, with the rest 17; 22139005 has 16
-        Check.due("the greatest code", house.credit(0, 97 * 22139005 + 16), 5);
+        // 22139005 has the rest 16 by 97
+        Check.due("a great code", house.credit(0, 97 * 22139005 + 16), 5);
         Check.due("the number 0", house.credit(0, 0), 0);
         Check.due("account", house.account(0), -(1 + 96 + 97 + 999 + 234 + 5));
         Check.due("income has no credit", house.income(0), 0);

@@ -645,6 +645,17 @@ public final class ReadingEdgesTest {
             house.read(0, 17);
             dueSame(house);
         });
+        Check.that("from the readings of that point, whatever others were spread since", () -> {
+            MeterHouse house = flat(0);
+            house.point(0, MeterHouse.FLAT, 5, 1, 0);
+            house.pass(3);
+            house.read(0, 7);
+            house.read(1, 80);
+            dueVolumes(house, 0, 3, 2, 2);
+            Check.due("the other one", house.volumeAnew(1, 0), 27);
+            Check.due("this one again", house.volumeAnew(0, 0), 3);
+            Check.due("the other one again", house.volumeAnew(1, 1), 27);
+        });
         Check.that("without readings behind the first one it is an estimate", () -> {
             MeterHouse house = flat(4);
             house.read(0, 90000);
