@@ -119,10 +119,11 @@ public final class MeterHouse {
     /** Confirms the reading that is doubted; returns the use by it. */
     public int confirm(int point) throws IndexOutOfBoundsException, IllegalStateException {
         Readings readings = pointAt(point).readings;
-        if (readings.doubtedDay() == NONE) {
+        int day = readings.doubtedDay();
+        if (day == NONE) {
             throw new IllegalStateException("no reading can be confirmed");
         }
-        return (int) readings.takeDoubted();
+        return (int) readings.take(day, readings.doubtedShown());
     }
 
     /** Exchanges a meter today; returns the use by the last reading of the old one. */
@@ -612,8 +613,8 @@ public final class MeterHouse {
             return doubtDay > latest ? doubtDay : NONE;
         }
 
-        long takeDoubted() {
-            return take(doubtDay, doubtShown);
+        int doubtedShown() {
+            return doubtShown;
         }
 
         /** Takes a reading; returns the use by it. */
